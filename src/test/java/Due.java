@@ -2,8 +2,14 @@
 final class Due {
     private static int right;
     private static int wrong;
+    private static String sentence = "";
 
     private Due() {
+    }
+
+    /** The sentence of the document by which the answers from here on are due; what stands in [ ] is not its own. */
+    static void by(String told) {
+        sentence = "\"" + told + "\": ";
     }
 
     static void is(String call, long got, long due) {
@@ -12,7 +18,7 @@ final class Due {
             return;
         }
         wrong++;
-        System.out.println(call + " answered " + got + ", due is " + due);
+        System.out.println(sentence + call + " answered " + got + ", due is " + due);
     }
 
     static void holds(String what, boolean held) {
