@@ -13,10 +13,13 @@ public final class ActsEdgesTest {
         spadesByStorms();
         carriedTo15();
         carriedLastLoad();
+        carriedByEachToEach();
         lentLastLoad();
         lentOneMore();
+        lentByEachToEach();
         stuckKeepsIt();
         pulledKeepsItFromThenOn();
+        pulledByEachFromEach();
         damOfEachFarm();
         eachIsAnAct();
         notAnAct();
@@ -157,6 +160,89 @@ public final class ActsEdgesTest {
         Due.is("carry(2, 2) of none", x.carry(2, 2), -3);
         Due.is("about(4)", x.about(4), 0);
         Due.is("nobody owes for it", x.owes(1, 0), 0);
+    }
+
+    /** Heights, clay and keepers of all farms, then what each owes each. */
+    private static int[] everything(DykeFarms x) {
+        int[] row = new int[6 * 9];
+        for (int i = 0; i < 6; i++) {
+            row[9 * i] = x.farm(i, 0);
+            row[9 * i + 1] = x.farm(i, 2);
+            row[9 * i + 2] = x.farm(i, 5);
+            for (int other = 0; other < 6; other++) {
+                row[9 * i + 3 + other] = x.owes(i, other);
+            }
+        }
+        return row;
+    }
+
+    private static void same(String call, DykeFarms x, int[] due) {
+        int[] got = everything(x);
+        for (int i = 0; i < due.length; i++) {
+            String what = i % 9 == 0 ? "height" : i % 9 == 1 ? "clay" : i % 9 == 2 ? "keeper" : "debt to " + (i % 9 - 3);
+            Due.is(what + " of " + i / 9 + " behind " + call, got[i], due[i]);
+        }
+    }
+
+    private static void carriedByEachToEach() {
+        for (int farm = 0; farm < 6; farm++) {
+            for (int stretch = 0; stretch < 6; stretch++) {
+                DykeFarms x = Due.dyke("DF10300F20400F30500F40600F50700F60800");
+                Due.by("CARRIED: a load of CLAY of a FARM is put on a STRETCH [and nothing else is changed]");
+                int[] due = everything(x);
+                due[9 * farm + 1]--;
+                due[9 * stretch]++;
+                String call = "carry(" + farm + ", " + stretch + ")";
+                Due.is(call, x.carry(farm, stretch), stretch + 2);
+                same(call, x, due);
+                Due.is("about(4) behind " + call, x.about(4), 32);
+                Due.is("about(1) behind " + call, x.about(1), 0);
+                Due.is("about(2) behind " + call, x.about(2), 0);
+                Due.is("about(3) behind " + call, x.about(3), 0);
+            }
+        }
+    }
+
+    private static void lentByEachToEach() {
+        for (int farm = 0; farm < 6; farm++) {
+            for (int other = 0; other < 6; other++) {
+                DykeFarms x = Due.dyke("DF10300F20400F30500F40600F50700F60800");
+                Due.by("LENT: a load of a FARM is another one's, which owes it one more [and nothing else is changed]");
+                int[] due = everything(x);
+                String call = "lend(" + farm + ", " + other + ")";
+                if (farm != other) {
+                    due[9 * farm + 1] -= 2;
+                    due[9 * other + 1] += 2;
+                    due[9 * other + 3 + farm] += 2;
+                }
+                Due.is(call, x.lend(farm, other), farm == other ? -2 : 1);
+                Due.is(call + " anew", x.lend(farm, other), farm == other ? -2 : 2);
+                same(call + ", twice,", x, due);
+                Due.is("about(4) behind " + call, x.about(4), 33);
+                Due.is("about(3) behind " + call, x.about(3), 0);
+            }
+        }
+    }
+
+    private static void pulledByEachFromEach() {
+        for (int farm = 0; farm < 6; farm++) {
+            for (int stretch = 0; stretch < 6; stretch++) {
+                DykeFarms x = Due.dyke("DF10300F20400F30500F40600F50700F60800");
+                Due.by("STUCK: the keeper of a STRETCH sticks its SPADE in [and nothing else is changed]");
+                int[] due = everything(x);
+                Due.is("stick(" + stretch + ")", x.stick(stretch), stretch);
+                same("stick(" + stretch + ")", x, due);
+                Due.is("about(2) behind it", x.about(2), 1 << stretch);
+                Due.by("PULLED: a FARM pulls the SPADE out of a STRETCH and keeps it [and nothing else is changed]");
+                due[9 * stretch + 2] = farm;
+                String call = "pull(" + farm + ", " + stretch + ")";
+                Due.is(call, x.pull(farm, stretch), stretch);
+                same(call, x, due);
+                Due.is("about(2) behind " + call, x.about(2), 0);
+                Due.is("about(1) behind " + call, x.about(1), 0);
+                Due.is("about(3) behind " + call, x.about(3), 0);
+            }
+        }
     }
 
     private static void lentLastLoad() {

@@ -23,6 +23,7 @@ public final class ChancesEdgesTest {
         threesLeastAndGreatest();
         threesOneBehindTheOther();
         threesOfTheStretch();
+        threesAsActs();
         seedIsALong();
         seedWraps();
         stormOfItsUpperBits();
@@ -247,6 +248,44 @@ public final class ChancesEdgesTest {
             Due.is("threes(" + stretch + ", 4, 4, 5, true)", x.threes(stretch, 4, 4, 5, true), due[stretch][0]);
             Due.is("threes(" + stretch + ", 4, 4, 5, false)", x.threes(stretch, 4, 4, 5, false), due[stretch][1]);
         }
+    }
+
+    /** On twins each row of three storms comes as ACTS. */
+    private static void threesAsActs() {
+        Due.by("THREES: each of high a by t tenths, else of low b, by itself: the chance that a STRETCH BREAKS in none");
+        String text = "DF30010F21011F12012F10013";
+        for (int stretch = 0; stretch < 4; stretch++) {
+            for (int a = 0; a <= 7; a++) {
+                for (int b = 0; b <= 7; b++) {
+                    int[] rows = rowsThatHold(text, stretch, a, b);
+                    for (int t = 0; t <= 10; t++) {
+                        int of1000 = rows[0] * (10 - t) * (10 - t) * (10 - t) + rows[1] * t * (10 - t) * (10 - t)
+                                + rows[2] * t * t * (10 - t) + rows[3] * t * t * t;
+                        int common = BigInteger.valueOf(of1000).gcd(BigInteger.valueOf(1000)).intValue();
+                        DykeFarms x = Due.dyke(text);
+                        String call = "threes(" + stretch + ", " + a + ", " + b + ", " + t + ", ";
+                        Due.is(call + "true)", x.threes(stretch, a, b, t, true), of1000 / common);
+                        Due.is(call + "false)", x.threes(stretch, a, b, t, false), 1000 / common);
+                    }
+                }
+            }
+        }
+    }
+
+    /** How many rows of three storms with 0, 1, 2, 3 high ones a stretch holds through. */
+    private static int[] rowsThatHold(String text, int stretch, int a, int b) {
+        int[] rows = new int[4];
+        for (int row = 0; row < 8; row++) {
+            DykeFarms twin = Due.dyke(text);
+            boolean holds = true;
+            for (int i = 0; i < 3; i++) {
+                int storm = (row >> i & 1) == 1 ? a : b;
+                holds = holds && (twin.breaks(storm) >> stretch & 1) == 0;
+                twin.storm(storm);
+            }
+            rows[Integer.bitCount(row)] += holds ? 1 : 0;
+        }
+        return rows;
     }
 
     private static void seedIsALong() {

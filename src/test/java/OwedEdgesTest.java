@@ -1,3 +1,5 @@
+import java.util.Random;
+
 /** The edges of what is owed and of shares: promises 24 to 26, sentence by sentence. */
 public final class OwedEdgesTest {
     private static final String SIX = "DF00900F00900F00900F00900F00900F00900";
@@ -14,6 +16,7 @@ public final class OwedEdgesTest {
         shareOfAllClay();
         shareOfAnyStretches();
         shareOfNothing();
+        sharesComeToAllThatIsSaved();
         Due.end();
     }
 
@@ -212,5 +215,32 @@ public final class OwedEdgesTest {
         share(x, 0, 4, 0, 1);
         share(x, 1, 4, 9, 1);
         share(x, 1, 5, 0, 1);
+    }
+
+    /** In each order the farms together save what all clay saves, so in the mean they do. */
+    private static void sharesComeToAllThatIsSaved() {
+        Due.by("SHARE: in the mean LOSS is less when it has come than it was");
+        Random chance = new Random(26);
+        for (int run = 0; run < 300; run++) {
+            StringBuilder text = new StringBuilder("D");
+            int farms = 1 + chance.nextInt(6);
+            for (int i = 0; i < farms; i++) {
+                text.append('F').append(chance.nextInt(10)).append(chance.nextInt(4)).append(chance.nextInt(6))
+                        .append(chance.nextInt(10)).append(chance.nextInt(4));
+                if (i > 0 && chance.nextBoolean()) {
+                    text.append('I').append(i - 1);
+                }
+            }
+            DykeFarms x = Due.dyke(text.toString());
+            for (int storm = 0; storm <= 20; storm++) {
+                long together = 0;
+                for (int farm = 0; farm < farms; farm++) {
+                    // six farms come in 720 orders, which each below goes into
+                    together += 720L / x.share(farm, storm, false) * x.share(farm, storm, true);
+                }
+                int saved = x.loss(storm) - x.placing(x.about(4), storm, 0);
+                Due.is("720 times all shares by " + storm + " of " + text, together, 720L * saved);
+            }
+        }
     }
 }

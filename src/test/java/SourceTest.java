@@ -20,6 +20,10 @@ public final class SourceTest {
             + "seed(long):long share(int,int,boolean):int stick(int):int storm(int):int "
             + "threes(int,int,int,int,boolean):int told(int,int,long,int):int undo():int wet(int,int):int "
             + "winters(int):int wipe():int write(int):int";
+    private static final String SECTIONS = "---- the dyke write wipe fault dyke about farm owes "
+            + "---- acts storm carry lend stick pull dam undo "
+            + "---- storms breaks drowns loss needs placing all told wet ---- owed net payings share "
+            + "---- rests, chances rests threes seed winters ---- slots keep again ";
     private static final String[] NO_WORDS = {"throw", "throws", "try", "catch", "finally", "synchronized", "assert",
         "native", "goto", "System", "Random", "Thread", "Object", "hashCode", "toString", "Integer\\.valueOf"};
 
@@ -29,6 +33,7 @@ public final class SourceTest {
         classes(type);
         words(Files.readString(Path.of("src/main/java/DykeFarms.java")));
         lengths(Files.readAllLines(Path.of("src/main/java/DykeFarms.java")));
+        sections(Files.readAllLines(Path.of("src/main/java/DykeFarms.java")));
         Due.end();
     }
 
@@ -103,6 +108,23 @@ public final class SourceTest {
         int end = code.indexOf("public int write");
         String made = code.substring(0, body) + code.substring(end, code.indexOf("private static final class"));
         Due.holds("only the constructor makes objects", !Pattern.compile("\\bnew\\b").matcher(made).find());
+    }
+
+    /** What stands ahead of the calls, and their order. */
+    private static void sections(List<String> lines) {
+        StringBuilder told = new StringBuilder();
+        for (String line : lines) {
+            String name = line.replaceAll("\\(.*", "").replaceAll(".* ", "");
+            if (line.startsWith("    // ---- ")) {
+                told.append(line.substring(7)).append(' ');
+            } else if (line.matches("    public (int|long) \\w+\\(.*")) {
+                told.append(name).append(' ');
+            }
+        }
+        String got = told.toString();
+        Due.holds("the calls stand behind their sections: " + got, got.startsWith(SECTIONS));
+        Due.holds("no call stands behind them", !got.substring(Math.min(SECTIONS.length(), got.length()))
+                .replace("---- what the calls rest on", "").matches(".*\\w.*"));
     }
 
     private static void lengths(List<String> lines) {

@@ -1,3 +1,5 @@
+import java.util.Random;
+
 /** The edges of what is told of storms ahead: promises 16 to 23, sentence by sentence. */
 public final class StormsEdgesTest {
     private static final String THREE_DAMMED = "DF00010F00010F00010I0I1";
@@ -19,6 +21,7 @@ public final class StormsEdgesTest {
         toldFirst();
         toldGoes();
         toldLeft();
+        toldAsActs();
         wetByNothing();
         wetByAll();
         wetNone();
@@ -288,6 +291,38 @@ public final class StormsEdgesTest {
         Due.is("told(1, 5, 0, 2), 0 at least", x.told(1, 5, 0, 2), 0);
         Due.is("told(2, 2, 303, 2), 0 at least", x.told(2, 2, 303, 2), 0);
         Due.is("told(2, 2, 303, 1), by its grass", x.told(2, 2, 303, 1), -9);
+    }
+
+    /** On a twin the same storms come as ACTS. */
+    private static void toldAsActs() {
+        Due.by("TOLD STORMS: n (1 .. 5), one behind the other");
+        Random chance = new Random(5);
+        for (int run = 0; run < 2000; run++) {
+            StringBuilder text = new StringBuilder("D");
+            for (int i = 0; i < 3; i++) {
+                text.append('F').append(chance.nextInt(5)).append(chance.nextInt(3)).append("01")
+                        .append(chance.nextInt(4));
+            }
+            DykeFarms x = Due.dyke(text.toString());
+            DykeFarms twin = Due.dyke(text.toString());
+            int n = 1 + chance.nextInt(5);
+            int stretch = chance.nextInt(3);
+            int first = -9;
+            int goes = -9;
+            long storms = 0;
+            for (int i = 0; i < n; i++) {
+                int storm = chance.nextInt(7);
+                storms = 100 * storms + storm;
+                int broken = twin.breaks(storm);
+                first = first == -9 && broken != 0 ? i : first;
+                goes = goes == -9 && (broken >> stretch & 1) == 1 ? i : goes;
+                twin.storm(storm);
+            }
+            String call = "told(" + stretch + ", " + n + ", " + storms + ", ";
+            Due.is(call + "0) of " + text, x.told(stretch, n, storms, 0), first);
+            Due.is(call + "1) of " + text, x.told(stretch, n, storms, 1), goes);
+            Due.is(call + "2) of " + text, x.told(stretch, n, storms, 2), twin.farm(stretch, 0));
+        }
     }
 
     private static void wet(DykeFarms x, int lands, int many, int inAll, int inNone) {

@@ -4,21 +4,26 @@ public final class TextEdgesTest {
     private static final String SIX = FIVE + "F93993";
     private static final String LONGEST = SIX + "I0I1I2I3I4";
     private static final String FIGURES = "93993";
+    private static final String WINTER = "DF50910F40020F60332I0";
 
     public static void main(String[] args) {
         nothingThereYet();
         bytesOfTheText();
         fullText();
         emptyText();
+        wipedAlone();
         firstByte();
         partsNoneOrMore();
         eachFigure();
+        figuresReadBack();
         sixFarmsAtMost();
+        numberedAsTold();
         damsBothToldAhead();
         damsNoneThereSoFar();
         onlyNotAtItsEnd();
         lengthSetAside();
         firstOfSeveralFaults();
+        faultsOfAnyTexts();
         madeAnew();
         madeOfOtherFarms();
         seedStays();
@@ -83,6 +88,33 @@ public final class TextEdgesTest {
         Due.is("wipe() of one byte", x.wipe(), 1);
     }
 
+    private static void wipedAlone() {
+        Due.by("THE TEXT is empty [nothing else is changed]");
+        Twins.same("wipe(), and the same bytes anew,", TextEdgesTest::winter, x -> {
+            x.wipe();
+            Due.write(x, WINTER);
+        });
+        DykeFarms x = new DykeFarms();
+        winter(x);
+        x.wipe();
+        Due.is("dyke() of the empty text", x.dyke(), -3);
+        Due.is("about(0) of the dyke before", x.about(0), 3);
+        Due.is("undo() of its last act", x.undo(), 4);
+        Due.is("again(0) of what was kept", x.again(0), 1);
+    }
+
+    private static void winter(DykeFarms x) {
+        Due.write(x, WINTER);
+        x.dyke();
+        x.lend(0, 1);
+        x.storm(5);
+        x.keep(0);
+        x.pull(2, 1);
+        x.carry(1, 2);
+        x.dam(1);
+        x.seed(7);
+    }
+
     private static void fault(String text, int due) {
         DykeFarms x = Due.text(text);
         Due.is("fault() of " + text, x.fault(), due);
@@ -121,6 +153,49 @@ public final class TextEdgesTest {
                     fault(text, taken ? last : text.length() - 1);
                 }
             }
+        }
+    }
+
+    private static void figuresReadBack() {
+        Due.by("its STRETCH is h high, has GRASS g, the FARM has c loads of CLAY, LAND worth v; k");
+        int[] mosts = {9, 3, 9, 9, 3};
+        for (int figures = 0; figures <= 99999; figures++) {
+            String told = String.valueOf(100000 + figures).substring(1);
+            boolean right = true;
+            for (int i = 0; i < 5; i++) {
+                right = right && told.charAt(i) - '0' <= mosts[i];
+            }
+            if (right) {
+                DykeFarms x = Due.dyke("DF93993F" + told);
+                for (int i = 0; i < 5; i++) {
+                    Due.is("farm(1, " + i + ") of F" + told, x.farm(1, i), told.charAt(i) - '0');
+                }
+                Due.is("farm(0, 4) ahead of F" + told, x.farm(0, 4), 3);
+            }
+        }
+    }
+
+    private static void numberedAsTold() {
+        Due.by("FARMS numbered as they are told");
+        String[] parts = {"F11110", "F22221", "I0", "F33332", "F42443", "I2", "I1", "F53550", "F60661", "I4"};
+        StringBuilder text = new StringBuilder("D");
+        int farms = 0;
+        int dams = 0;
+        for (String part : parts) {
+            text.append(part);
+            farms += part.charAt(0) == 'F' ? 1 : 0;
+            dams |= part.charAt(0) == 'I' ? 1 << part.charAt(1) - '0' : 0;
+            DykeFarms x = Due.dyke(text.toString());
+            Due.is("about(0) of " + text, x.about(0), farms);
+            Due.is("about(1) of " + text, x.about(1), dams);
+            for (int i = 0; i < farms; i++) {
+                Due.is("farm(" + i + ", 0) of " + text, x.farm(i, 0), i + 1);
+                Due.is("farm(" + i + ", 2) of " + text, x.farm(i, 2), i + 1);
+                Due.is("farm(" + i + ", 3) of " + text, x.farm(i, 3), i + 1);
+                Due.is("farm(" + i + ", 4) of " + text, x.farm(i, 4), i % 4);
+                Due.is("farm(" + i + ", 5) of " + text, x.farm(i, 5), i);
+            }
+            Due.is("farm(" + farms + ", 0) of " + text, x.farm(farms, 0), -1);
         }
     }
 
@@ -199,6 +274,37 @@ public final class TextEdgesTest {
         fault("DF00000I0X", 7);
         fault("DF00000F00000I1X", 14);
         fault("DF00000 F00000", 7);
+    }
+
+    /** Each text of five bytes or fewer out of a few, and each that differs from a dyke by a byte. */
+    private static void faultsOfAnyTexts() {
+        Due.by("FAULT: the place (from 0) of the first byte by which THE TEXT can be no DYKE, whatever came behind it");
+        String few = "DFI04";
+        for (int number = 0; number < 6 * 6 * 6 * 6 * 6; number++) {
+            StringBuilder text = new StringBuilder();
+            for (int left = number; left > 0; left /= 6) {
+                text.append(left % 6 == 0 ? "" : few.substring(left % 6 - 1, left % 6));
+            }
+            asTheModel(text.toString());
+        }
+        for (String dyke : new String[] {LONGEST, "DF00000F93993I0F00000I1F93993F00000I3I2F93993I4"}) {
+            for (int place = 0; place < dyke.length(); place++) {
+                for (char letter : "0123456789DFI/: dfi".toCharArray()) {
+                    asTheModel(dyke.substring(0, place) + letter + dyke.substring(place + 1));
+                    asTheModel(dyke.substring(0, place) + letter + dyke.substring(place));
+                }
+                asTheModel(dyke.substring(0, place) + dyke.substring(place + 1));
+            }
+        }
+    }
+
+    /** The model finds the fault by trying out what could come behind. */
+    private static void asTheModel(String text) {
+        Model model = new Model();
+        for (char letter : text.toCharArray()) {
+            model.write(letter);
+        }
+        fault(text, model.fault());
     }
 
     private static void madeAnew() {
