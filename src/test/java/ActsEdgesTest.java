@@ -179,8 +179,9 @@ public final class ActsEdgesTest {
     private static void same(String call, DykeFarms x, int[] due) {
         int[] got = everything(x);
         for (int i = 0; i < due.length; i++) {
-            String what = i % 9 == 0 ? "height" : i % 9 == 1 ? "clay" : i % 9 == 2 ? "keeper" : "debt to " + (i % 9 - 3);
-            Due.is(what + " of " + i / 9 + " behind " + call, got[i], due[i]);
+            String[] what = {"height", "clay", "keeper", "debt to 0", "debt to 1", "debt to 2", "debt to 3", "debt to 4",
+                "debt to 5"};
+            Due.is(what[i % 9] + " of " + i / 9 + " behind " + call, got[i], due[i]);
         }
     }
 

@@ -252,7 +252,7 @@ public final class ChancesEdgesTest {
 
     /** On twins each row of three storms comes as ACTS. */
     private static void threesAsActs() {
-        Due.by("THREES: each of high a by t tenths, else of low b, by itself: the chance that a STRETCH BREAKS in none");
+        Due.by("THREES: each of high a by t tenths, else of low b: the chance that a STRETCH BREAKS in none");
         String text = "DF30010F21011F12012F10013";
         for (int stretch = 0; stretch < 4; stretch++) {
             for (int a = 0; a <= 7; a++) {

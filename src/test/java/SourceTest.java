@@ -8,7 +8,10 @@ import java.nio.file.Path;
 import java.util.ArrayList;
 import java.util.Arrays;
 import java.util.List;
+import java.util.Map;
+import java.util.TreeMap;
 import java.util.TreeSet;
+import java.util.regex.Matcher;
 import java.util.regex.Pattern;
 
 /** The face of the document, and what of LANGUAGE.md can be seen from the source. */
@@ -24,6 +27,9 @@ public final class SourceTest {
             + "---- acts storm carry lend stick pull dam undo "
             + "---- storms breaks drowns loss needs placing all told wet ---- owed net payings share "
             + "---- rests, chances rests threes seed winters ---- slots keep again ";
+    private static final Pattern METHOD =
+            Pattern.compile(" +(?:public|private)(?: static)? (?:\\w+ )?(\\w+)\\(.*\\) \\{");
+    private static final List<String> LIBRARY = List.of("Math.max", "Math.min", "Integer.bitCount", "Arrays.fill");
     private static final String[] NO_WORDS = {"throw", "throws", "try", "catch", "finally", "synchronized", "assert",
         "native", "goto", "System", "Random", "Thread", "Object", "hashCode", "toString", "Integer\\.valueOf"};
 
@@ -34,10 +40,12 @@ public final class SourceTest {
         words(Files.readString(Path.of("src/main/java/DykeFarms.java")));
         lengths(Files.readAllLines(Path.of("src/main/java/DykeFarms.java")));
         sections(Files.readAllLines(Path.of("src/main/java/DykeFarms.java")));
+        depth(Files.readAllLines(Path.of("src/main/java/DykeFarms.java")));
         Due.end();
     }
 
     private static void face(Class<?> type) {
+        Due.by("rule 1");
         int wanted = Modifier.PUBLIC | Modifier.FINAL;
         Due.is("the class is public and final", type.getModifiers() & wanted, wanted);
         TreeSet<String> told = new TreeSet<>();
@@ -71,12 +79,15 @@ public final class SourceTest {
     }
 
     private static void classes(Class<?> type) {
-        TreeSet<String> names = new TreeSet<>();
-        for (Method method : type.getDeclaredMethods()) {
-            Due.holds("no two methods are named " + method.getName(), names.add(method.getName()));
-        }
+        Due.by("rules 1, 2, 5 and 11");
         List<Class<?>> every = new ArrayList<>(List.of(type));
         every.addAll(List.of(type.getDeclaredClasses()));
+        TreeSet<String> names = new TreeSet<>();
+        for (Class<?> each : every) {
+            for (Method method : each.getDeclaredMethods()) {
+                Due.holds("no two methods are named " + method.getName(), names.add(method.getName()));
+            }
+        }
         Due.holds("at most some twelve classes", every.size() <= 12);
         for (Class<?> each : every) {
             Due.holds(each + " is static", each == type || Modifier.isStatic(each.getModifiers()));
@@ -95,6 +106,7 @@ public final class SourceTest {
     }
 
     private static void words(String source) {
+        Due.by("rules 2 to 7, 10, 12 and 13");
         String code = source.replaceAll("(?s)/\\*.*?\\*/", " ").replaceAll("//[^\n]*", " ");
         for (String word : NO_WORDS) {
             Due.holds("no " + word, !Pattern.compile("\\b" + word + "\\b").matcher(code).find());
@@ -102,6 +114,14 @@ public final class SourceTest {
         Due.holds("no lambda", !code.contains("->") && !code.contains("::"));
         Due.holds("nothing that ends in Exact", !code.contains("Exact"));
         Due.holds("no texts", !code.contains("\""));
+        Due.holds("no static initialiser", !Pattern.compile("\\bstatic\\s*\\{").matcher(code).find());
+        Due.holds("no numbers but whole ones", !Pattern.compile("\\b(double|float)\\b|\\d\\.\\d").matcher(code).find());
+        String own = code.replace("import java.util.Arrays;", "");
+        Matcher library = Pattern.compile("\\b(Math|Integer|Long|Arrays|String\\w*|List|ArrayList)\\b(\\.\\w+)?")
+                .matcher(own);
+        while (library.find()) {
+            Due.holds(library.group() + " is of the few that are used", LIBRARY.contains(library.group()));
+        }
         Due.holds("plain signs", source.chars().allMatch(c -> c == '\n' || c >= 32 && c < 127));
         Due.holds("one import", code.replace("import java.util.Arrays;", "").indexOf("import") < 0);
         int body = code.indexOf("public DykeFarms()");
@@ -110,8 +130,42 @@ public final class SourceTest {
         Due.holds("only the constructor makes objects", !Pattern.compile("\\bnew\\b").matcher(made).find());
     }
 
+    /** No method comes back to itself, and calls go eight deep at most. */
+    private static void depth(List<String> lines) {
+        Due.by("rules 8 and 11");
+        Map<String, String> bodies = new TreeMap<>();
+        String name = "";
+        for (String line : lines) {
+            Matcher head = METHOD.matcher(line);
+            if (head.matches()) {
+                name = head.group(1);
+                bodies.put(name, "");
+            } else if (!name.isEmpty()) {
+                bodies.put(name, bodies.get(name) + line + "\n");
+            }
+        }
+        for (Method method : DykeFarms.class.getDeclaredMethods()) {
+            Due.holds(method.getName() + " is found", bodies.containsKey(method.getName()));
+        }
+        for (String from : bodies.keySet()) {
+            Due.holds(from + " goes eight deep at most", deep(from, bodies, 1) <= 8);
+        }
+    }
+
+    /** Far more than eight where a method comes back to itself. */
+    private static int deep(String from, Map<String, String> bodies, int at) {
+        int deepest = at;
+        for (String to : bodies.keySet()) {
+            if (at < 20 && Pattern.compile("\\b" + to + "\\(").matcher(bodies.get(from)).find()) {
+                deepest = Math.max(deepest, deep(to, bodies, at + 1));
+            }
+        }
+        return deepest;
+    }
+
     /** What stands ahead of the calls, and their order. */
     private static void sections(List<String> lines) {
+        Due.by("Ahead of the calls .. the interface says");
         StringBuilder told = new StringBuilder();
         for (String line : lines) {
             String name = line.replaceAll("\\(.*", "").replaceAll(".* ", "");
@@ -128,6 +182,7 @@ public final class SourceTest {
     }
 
     private static void lengths(List<String> lines) {
+        Due.by("rule 11");
         int methods = 0;
         int from = 0;
         String end = "";
